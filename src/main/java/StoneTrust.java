@@ -1259,10 +1259,12 @@ public final class StoneTrust {
 
         void put(long row) {
             if (size >= rows.length) {
-                rows = Arrays.copyOf(rows, 2 * rows.length);
+                rows = Arrays.copyOf(rows, Math.min(2 * rows.length, MOST_WAYS));
             }
-            rows[size] = row;
-            size++;
+            if (size < rows.length) {
+                rows[size] = row;
+                size++;
+            }
         }
 
         long row(int i) {
@@ -1531,12 +1533,15 @@ public final class StoneTrust {
     private static final class Trials {
         private static final int CODES = 729;
         private static final int SHOWN = 3;
+        private static final int MOST_CLEAR_SIDE = 2;
         private static final int MOST_SMALL = 240;
         private static final int WORDS = 3;
         private static final int WORD_BITS = 64;
 
         private final int[] left = new int[CODES];
         private final int[] right = new int[CODES];
+        private final int[] codes = new int[CODES];
+        private int codeCount = 0;
         private final int[] shown = new int[CODES * SHOWN];
         private final int[] grains = new int[1 << MOST_STONES];
         private int nextStamp = NONE;
@@ -1586,37 +1591,47 @@ public final class StoneTrust {
             nextStamp = fits.stamp;
             nextCode = NONE;
             nextPart = NONE;
+            codeCount = list(codes, village.stones, MOST_STONES);
             Arrays.fill(shown, 0);
             for (int i = 0; i < fits.size; i++) {
                 countShown(village, fits.row(i));
             }
             int fewestStones = 0;
-            for (int code = 0; code < CODES; code++) {
-                if (canBe(code, village.stones)) {
-                    int greatest = greatestPart(code);
-                    int stones = Integer.bitCount(left[code] | right[code]);
-                    if (nextCode < 0 || greatest < nextPart || greatest == nextPart && stones < fewestStones) {
-                        nextCode = code;
-                        nextPart = greatest;
-                        fewestStones = stones;
-                    }
+            for (int t = 0; t < codeCount; t++) {
+                int greatest = greatestPart(t);
+                int stones = Integer.bitCount(left[codes[t]] | right[codes[t]]);
+                if (t == 0 || greatest < nextPart || greatest == nextPart && stones < fewestStones) {
+                    nextCode = codes[t];
+                    nextPart = greatest;
+                    fewestStones = stones;
                 }
             }
         }
 
-        private int greatestPart(int code) {
-            int at = code * SHOWN;
+        /** The codes of all TRIALS with so many STONES a side at most, the least first: how many there are. */
+        private int list(int[] into, int stones, int most) {
+            int count = 0;
+            for (int code = 0; code < CODES && count < into.length; code++) {
+                boolean few = Integer.bitCount(left[code]) <= most && Integer.bitCount(right[code]) <= most;
+                if (few && canBe(code, stones)) {
+                    into[count] = code;
+                    count++;
+                }
+            }
+            return count;
+        }
+
+        private int greatestPart(int t) {
+            int at = t * SHOWN;
             return Math.max(shown[at + LEFT], Math.max(shown[at + RIGHT], shown[at + EVEN]));
         }
 
         private void countShown(Village village, long row) {
             int arm = village.armOf(row);
             addUp(village, row);
-            for (int code = 0; code < CODES; code++) {
-                if (canBe(code, village.stones)) {
-                    int difference = LEFT_ARM * grains[left[code]] - arm * grains[right[code]];
-                    shown[code * SHOWN + village.verdict(difference)]++;
-                }
+            for (int t = 0; t < codeCount; t++) {
+                int difference = LEFT_ARM * grains[left[codes[t]]] - arm * grains[right[codes[t]]];
+                shown[t * SHOWN + village.verdict(difference)]++;
             }
         }
 
@@ -1636,7 +1651,7 @@ public final class StoneTrust {
                 return;
             }
             if (clearStamp != fits.stamp) {
-                listSmall(village.stones);
+                smallCount = list(small, village.stones, MOST_CLEAR_SIDE);
                 layOut(village, fits);
             }
             clearStamp = fits.stamp;
@@ -1664,17 +1679,6 @@ public final class StoneTrust {
                 }
             }
             return false;
-        }
-
-        private void listSmall(int stones) {
-            smallCount = 0;
-            for (int code = 0; code < CODES && smallCount < MOST_SMALL; code++) {
-                boolean few = Integer.bitCount(left[code]) <= 2 && Integer.bitCount(right[code]) <= 2;
-                if (few && canBe(code, stones)) {
-                    small[smallCount] = code;
-                    smallCount++;
-                }
-            }
         }
 
         /** For each small TRIAL and what it can show: the FITS by which it does, as bits. */
