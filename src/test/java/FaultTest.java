@@ -47,6 +47,7 @@ public final class FaultTest {
         right(A + "master a from 0 to 400;", 2);
         right(A + "master a from 400 to 400;", 2);
         right("stone abcdefgh says 9 in 1 off 4 worn 3;", 1);
+        right("stone azaz says 9 in 1 off 4 worn 3;", 1);
         right("stone armsx says 9 in 1 off 4 worn 3;", 1);
         right(A + B + "weigh a with b in 9 by 9 left;weigh b with a in 0 by 0 right;weigh a with b in 0 by 0 even;", 5);
         right(A + B + "sale a b in 9 by 9 price 99;sale b in 0 by 0 price 0;", 4);
@@ -113,6 +114,11 @@ public final class FaultTest {
         right(six.toString(), 6);
         wrong(2, six + "|stone g says 1 in 0 off 0 worn 0;");
         wrong(2, six + "|stone");
+        right(six + "sale a b c d e f in 0 by 0 price 0;", 7);
+        wrong(3, six + "sale f e d c b a |f in 0 by 0 price 0;");
+        wrong(5, six + "sale a b c d e f |g in 0 by 0 price 0;");
+        wrong(3, six + "weigh a b c d e f with |a in 0 by 0 even;");
+        wrong(2, six + "weigh a b c d e f |in 0 by 0 even;");
         String weighs = A + B + "weigh a with b in 0 by 0 even;".repeat(16);
         right(weighs, 18);
         wrong(2, weighs + "|weigh a with b in 0 by 0 even;");
@@ -126,6 +132,7 @@ public final class FaultTest {
         wrong(3, "pound 0 from 1 to 1;pound |0 from 1 to 1;");
         wrong(3, "pound 1 from 1 to 1;pound |0001 from 1 to 1;");
         wrong(3, A + "master a from 1 to 1;master |a from 1 to 1;");
+        wrong(3, A + "master a from 0 to 0;master |a from 0 to 0;");
         wrong(3, A + B + "weigh a |a with b in 0 by 0 even;");
         wrong(3, A + B + "weigh a with |a in 0 by 0 even;");
         wrong(3, A + B + "weigh a with b |b in 0 by 0 even;");

@@ -228,6 +228,14 @@ public final class PromiseTest {
         StoneTrust right = Feeder.village("feel 1;" + stone("a", 1, 0, 4, 0) + stone("b", 1, 0, 0, 0)
             + "weigh a with b in 0 by 0 right;");
         is("right beyond the feel", right.span(3, true, 0), 14);
+        // The least that is more than the feel: 100 less 99, and 100 less 101.
+        String grains = "pound 0 from 1 to 1;" + stone("a", 1, 0, 0, 0) + stone("b", 1, 0, 0, 0);
+        is("1 is left", Feeder.village("arms 99 to 99;" + grains + "weigh a with b in 0 by 0 left;").fits(0), 1);
+        is("1 is left of b", Feeder.village("arms 99 to 99;" + grains + "weigh b with a in 0 by 0 left;").fits(0), 1);
+        is("-1 is right", Feeder.village("arms 101 to 101;" + grains + "weigh a with b in 0 by 0 right;").fits(0), 1);
+        is("-1 is right of b", Feeder.village("arms 101 to 101;" + grains + "weigh b with a in 0 by 0 right;").fits(0), 1);
+        is("1 is not even", Feeder.village("arms 99 to 99;" + grains + "weigh a with b in 0 by 0 even;").fits(0), 0);
+        is("-1 is not even", Feeder.village("arms 101 to 101;" + grains + "weigh b with a in 0 by 0 even;").fits(0), 0);
     }
 
     private static void spent() {

@@ -13,7 +13,7 @@ public final class RoomTest {
         for (char c = 'a'; c <= 'f'; c++) {
             six.append("stone ").append(c).append(" says 1 in 0 off ").append(c < 'e' ? 1 : 0).append(" worn 1;");
         }
-        // 2 * 2 * 81 FITS are too many for CLEAR, so the second trader's word halves them and more.
+        // 2 * 2 * 81 FITS are too many for CLEAR, so a weighing leaves fewer of them.
         six.append("weigh a with b in 0 by 1 even;");
         run("300,000 fits", five.toString());
         run("many trials", six.toString());
