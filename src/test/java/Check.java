@@ -2,8 +2,14 @@
 final class Check {
     private static int wrong = 0;
     private static int right = 0;
+    private static String sentence = "";
 
     private Check() {
+    }
+
+    /** What is checked from here on is asked for by this sentence. */
+    static void sentence(String words) {
+        sentence = "[" + words + "] ";
     }
 
     static void same(String what, Object got, Object due) {
@@ -13,7 +19,7 @@ final class Check {
         }
         wrong++;
         if (wrong <= 50) {
-            System.out.println(what + " answered " + got + ", due is " + due);
+            System.out.println(sentence + what + " answered " + got + ", due is " + due);
         }
     }
 

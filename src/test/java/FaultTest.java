@@ -1,4 +1,4 @@
-/** The text: its TOKENS, its lines, and every FAULT with its place (promises 2 to 5). */
+/** The text: its TOKENS, its lines, and every FAULT with its place (promises 2 to 5); the mark | stands there. */
 public final class FaultTest {
     private static final String A = "stone a says 1 in 0 off 0 worn 0;";
     private static final String B = "stone b says 1 in 0 off 0 worn 0;";
@@ -15,24 +15,11 @@ public final class FaultTest {
     }
 
     private static void right(String text, int lines) {
-        StoneTrust x = new StoneTrust();
-        Check.same("lines of " + text, Feeder.read(x, text), lines);
-        Check.same("fault(0) of " + text, x.fault(0), 0);
-        Check.same("fault(1) of " + text, x.fault(1), StoneTrust.NONE);
-        Check.same("tape behind " + text, x.about(5), 0);
+        Reading.right(text, lines);
     }
 
-    /** The place is where the mark | stands, which is no part of the text. */
     private static void wrong(int fault, String marked) {
-        int place = marked.indexOf('|');
-        String text = marked.substring(0, place) + marked.substring(place + 1);
-        StoneTrust x = new StoneTrust();
-        Check.same("village of " + text, Feeder.read(x, text), StoneTrust.NONE);
-        Check.same("fault(0) of " + text, x.fault(0), fault);
-        Check.same("fault(1) of " + text, x.fault(1), place);
-        Check.same("fault(2) of " + text, x.fault(2), StoneTrust.NONE);
-        Check.same("fault(-1) of " + text, x.fault(-1), StoneTrust.NONE);
-        Check.same("tape behind " + text, x.about(5), text.length());
+        Reading.wrong(fault, marked);
     }
 
     private static void rightTexts() {
