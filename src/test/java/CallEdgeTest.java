@@ -49,6 +49,7 @@ public final class CallEdgeTest {
         thumbs();
         about();
         questionsChangeNothing();
+        lastCall();
         for (int promise = 1; promise <= 31; promise++) {
             Doc.wantsQuoted("## Promise " + promise + ":");
         }
@@ -705,5 +706,24 @@ public final class CallEdgeTest {
             x.fit(stone, 3, k);
         }
         same(x, before, "questions");
+    }
+
+    private static void lastCall() {
+        Doc.says("An object is used for at most 512 calls after it has been made");
+        // Two feeds, about(), end() and village().
+        StoneTrust x = Feeder.village(stone("a", 1, 0, 4, 3));
+        int calls = 5;
+        while (calls < 500) {
+            is("a round of calls", x.fits(0) + x.span(3, true, 0) + x.sum(1, 9, false, 0) + x.thumbs(0) + x.fewest(0), 29);
+            calls += 5;
+        }
+        is("500 calls", calls, 500);
+        is("feed", x.feed(0x20202020, 0x20202020, 0x20202020, 0x20202020, 0x20202020), 20);
+        is("village", x.village(), 0);
+        is("later", x.later(1000), 1000);
+        for (int i = 504; i <= 511; i++) {
+            is("call " + i, x.doubt(3, i % 2 == 0), true);
+        }
+        is("call 512", x.fits(0), 1);
     }
 }
